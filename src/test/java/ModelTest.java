@@ -2,7 +2,9 @@ import java.util.Random;
 
 /** Long runs of calls, right and wrong ones, against the model; the seeds are fixed. */
 public final class ModelTest {
+    /** What later calls answer is free. */
     private static final int CALLS = 512;
+    private static final int MOST_BORDERS = 112;
     private static final Check CHECK = new Check();
 
     private interface Answer {
@@ -26,7 +28,7 @@ public final class ModelTest {
     }
 
     public static void main(String[] args) {
-        for (int seed = 0; seed < 120; seed++) {
+        for (int seed = 0; seed < 300; seed++) {
             new ModelTest(seed).play();
         }
         CHECK.end();
@@ -45,9 +47,9 @@ public final class ModelTest {
     }
 
     private void compare(String call, Answer got, Answer due) {
-        if (calls++ < CALLS) {
-            CHECK.sameText(place + " call " + calls + ": " + call, told(got), told(due));
-        }
+        calls++;
+        CHECK.same(place + " has calls left", calls <= CALLS, true);
+        CHECK.sameText(place + " call " + calls + ": " + call, told(got), told(due));
     }
 
     private void play() {
@@ -59,10 +61,12 @@ public final class ModelTest {
                 pin(i);
             }
         }
-        while (calls < CALLS) {
+        while (calls < CALLS - 2 * MOST_BORDERS - 1) {
             change(pick(0, 17), pick(-1, first));
             look(pick(0, 9), pick(-1, first));
         }
+        compareRoute(pick(0, first - 1));
+        compareRoute(pick(0, first - 1));
     }
 
     private void pin(int net) {
@@ -109,8 +113,7 @@ public final class ModelTest {
         } else if (kind < 2) {
             compare("least(" + net + ")", () -> real.least(net), () -> model.least(net));
         } else if (kind < 3) {
-            compare("has(" + net + ", " + x + ", " + y + ", " + down + ")",
-                    () -> real.has(net, x, y, down) ? 1 : 0, () -> model.has(net, x, y, down) ? 1 : 0);
+            compareBorder(net, x, y, down);
         } else if (kind < 6) {
             compare("border(" + x + ", " + y + ", " + down + ", " + what % 5 + ")",
                     () -> real.border(x, y, down, what % 5), () -> model.border(x, y, down, what % 5));
@@ -120,27 +123,23 @@ public final class ModelTest {
         } else {
             compare("told(" + what + ")", () -> real.told(what), () -> model.told(what));
         }
-        if (calls >= CALLS - 1) {
-            compareRoutes();
-        }
     }
 
-    /** Behind the last counted call all routes are looked at, by way of a state kept small. */
-    private void compareRoutes() {
-        for (int net = 0; net < model.pins.size(); net++) {
-            for (int x = 0; x < model.width; x++) {
-                for (int y = 0; y < model.height; y++) {
-                    compareCell(net, x, y);
+    private void compareRoute(int net) {
+        for (int x = 0; x < model.width; x++) {
+            for (int y = 0; y < model.height; y++) {
+                if (x < model.width - 1) {
+                    compareBorder(net, x, y, false);
+                }
+                if (y < model.height - 1) {
+                    compareBorder(net, x, y, true);
                 }
             }
         }
     }
 
-    private void compareCell(int net, int x, int y) {
-        String text = place + " at the end, net " + net + " at " + x + ", " + y;
-        CHECK.sameText(text + " right", told(() -> real.has(net, x, y, false) ? 1 : 0),
-                told(() -> model.has(net, x, y, false) ? 1 : 0));
-        CHECK.sameText(text + " down", told(() -> real.has(net, x, y, true) ? 1 : 0),
-                told(() -> model.has(net, x, y, true) ? 1 : 0));
+    private void compareBorder(int net, int x, int y, boolean down) {
+        compare("has(" + net + ", " + x + ", " + y + ", " + down + ")",
+                () -> real.has(net, x, y, down) ? 1 : 0, () -> model.has(net, x, y, down) ? 1 : 0);
     }
 }
