@@ -1,6 +1,16 @@
 /** Counts answers that are not as due. */
 final class Check {
+    private final String place;
     private int wrong = 0;
+
+    Check() {
+        this("");
+    }
+
+    /** What is printed begins with the place. */
+    Check(String place) {
+        this.place = place;
+    }
 
     interface Call {
         void make();
@@ -8,8 +18,7 @@ final class Check {
 
     void same(String what, long got, long due) {
         if (got != due) {
-            wrong++;
-            System.out.println(what + " answered " + got + ", due is " + due);
+            tell(what + " answered " + got + ", due is " + due);
         }
     }
 
@@ -19,9 +28,17 @@ final class Check {
 
     void sameText(String what, String got, String due) {
         if (!got.equals(due)) {
-            wrong++;
-            System.out.println(what + " answered " + got + ", due is " + due);
+            tell(what + " answered " + got + ", due is " + due);
         }
+    }
+
+    void tell(String fault) {
+        wrong++;
+        System.out.println(place + fault);
+    }
+
+    boolean isClean() {
+        return wrong == 0;
     }
 
     void isThrown(String what, Class<? extends RuntimeException> due, Call call) {
